@@ -836,10 +836,19 @@ public final class VersionSolver {
             clash[other] |= bit(option);
         }
 
-        /** The options of the first solution among the open ones; 0 when there is no solution. */
+        /**
+         * The options of the first solution among the open ones; 0 when there is none. It settles the
+         * packages in their order, and always holds a solution that proves that what it settled can be.
+         */
         long firstSolution(long open, int fromRoot) {
             rootPacks = fromRoot;
-            return firstFrom(0, narrowed(open & allOptions()));
+            long settled = narrowed(open & allOptions());
+            long proof = anySolution(0, settled);
+            for (int pack = 0; pack < PACKS && proof != 0; pack++) {
+                proof = foremostProof(pack, settled, proof);
+                settled = taking(settled, pack, proof & optionsOf(pack));
+            }
+            return proof;
         }
 
         private long allOptions() {
@@ -850,24 +859,18 @@ public final class VersionSolver {
             return all;
         }
 
-        /** Tries a package's options in their order; all packages before it have one option each. */
-        private long firstFrom(int pack, long open) {
-            if (open == 0 || pack >= PACKS) {
-                return open;
-            }
+        /** A solution that gives a package the foremost option that any solution gives it. */
+        private long foremostProof(int pack, long open, long proof) {
             long left = open & optionsOf(pack);
             for (int tries = 0; tries < OPTIONS && left != 0; tries++) {
                 int option = foremost(pack, left);
-                if (option == NONE) {
-                    return 0;
+                long other = isIn(proof, option) ? proof : anySolution(0, taking(open, pack, bit(option)));
+                if (other != 0) {
+                    return other;
                 }
                 left &= ~bit(option);
-                long found = firstFrom(pack + 1, narrowed(open & ~clash[option]));
-                if (found != 0) {
-                    return found;
-                }
             }
-            return 0;
+            return proof;
         }
 
         /** Which of a package's options comes first: none, then the pinned version, then the highest. */
@@ -881,13 +884,70 @@ public final class VersionSolver {
             return registry.highest(left);
         }
 
+        /**
+         * One solution among the open options, or 0. It decides reached packages alone: what is never
+         * reached has no version, and to try its versions would be work for nothing.
+         */
+        private long anySolution(int depth, long open) {
+            if (open == 0 || depth > PACKS) {
+                return 0;
+            }
+            int reached = reachedThrough(settledIn(open));
+            int pack = narrowest(open, reached);
+            if (pack == NONE) {
+                return narrowed(withoutUnreached(open, reached));
+            }
+            long left = open & optionsOf(pack);
+            for (int tries = 0; tries < OPTIONS && left != 0; tries++) {
+                int option = foremost(pack, left);
+                long found = anySolution(depth + 1, taking(open, pack, bit(option)));
+                if (found != 0) {
+                    return found;
+                }
+                left &= ~bit(option);
+            }
+            return 0;
+        }
+
+        /** The options that are the only open one of their package. */
+        private long settledIn(long open) {
+            long settled = 0;
+            for (int pack = 0; pack < PACKS; pack++) {
+                long options = open & optionsOf(pack);
+                if (Long.bitCount(options) == 1) {
+                    settled |= options;
+                }
+            }
+            return settled;
+        }
+
+        /** The package with the fewest options, but more than one, of those reached; or NONE. */
+        private int narrowest(long open, int reached) {
+            int found = NONE;
+            int fewest = OPTIONS;
+            for (int pack = 0; pack < PACKS; pack++) {
+                int options = Long.bitCount(open & optionsOf(pack));
+                if (isIn(reached, pack) && options > 1 && options < fewest) {
+                    found = pack;
+                    fewest = options;
+                }
+            }
+            return found;
+        }
+
+        /** What stays open when a package takes one option. */
+        private long taking(long open, int pack, long option) {
+            return narrowed(open & (option | ~optionsOf(pack)));
+        }
+
         /** Strikes out what can't be in a solution; 0 when a package has no option left. */
         private long narrowed(long open) {
             long now = open;
             // Each round but the last strikes out one option at least.
             for (int round = 0; round <= OPTIONS && now != 0; round++) {
                 long before = now;
-                now = reachable(supported(now));
+                now = supported(now);
+                now = withoutUnreached(now, reachedThrough(now));
                 if (now == before) {
                     return now;
                 }
@@ -910,19 +970,23 @@ public final class VersionSolver {
             return kept;
         }
 
-        /** The options but versions of packages that no open version can lead to from the root. */
-        private long reachable(long open) {
+        /** The packages, as bits, to which a set of versions leads from the root. */
+        private int reachedThrough(long versions) {
             int reached = rootPacks;
             boolean grows = true;
             for (int round = 0; round < PACKS && grows; round++) {
                 int before = reached;
                 for (int v = 0; v < registry.count(); v++) {
-                    if (isIn(open, v) && isIn(reached, packOf[v])) {
+                    if (isIn(versions, v) && isIn(reached, packOf[v])) {
                         reached |= needed[v];
                     }
                 }
                 grows = reached != before;
             }
+            return reached;
+        }
+
+        private long withoutUnreached(long open, int reached) {
             long kept = open;
             for (int pack = 0; pack < PACKS; pack++) {
                 if (!isIn(reached, pack)) {

@@ -1,7 +1,9 @@
 import java.nio.charset.StandardCharsets;
 import java.util.ArrayList;
 import java.util.Arrays;
+import java.util.HashMap;
 import java.util.List;
+import java.util.Map;
 import java.util.concurrent.Callable;
 import java.util.regex.Pattern;
 
@@ -18,8 +20,8 @@ public final class ModelTest {
     private static long seed = 1;
 
     public static void main(String[] args) {
-        for (int run = 0; run < 1500; run++) {
-            new Run(run).play();
+        for (int run = 0; run < 3000; run++) {
+            new Run(run, run % 2 == 1).play();
         }
         System.out.println(wrong == 0 ? "the model agrees" : wrong + " answers differ from the model's");
         if (wrong != 0) {
@@ -83,6 +85,32 @@ public final class ModelTest {
         return text.toString();
     }
 
+    /** Requirements that many versions meet, so that solutions have many packages. */
+    private static String looseRequirement() {
+        int low = 1 + pick(4);
+        int high = low + pick(3);
+        switch (pick(9)) {
+            case 0: case 1: return "*";
+            case 2: case 3: return ">=" + low;
+            case 4: case 5: return "<=" + high;
+            case 6: return ">=" + low + ", <=" + high + ".0.0";
+            case 7: return ">=" + low + ".0.0-a, <=" + high + ".0.0-b";
+            default: return SIGNS[pick(SIGNS.length)] + low;
+        }
+    }
+
+    private static String loosePublication(int packs, int needs) {
+        StringBuilder text = new StringBuilder();
+        text.append(1 + pick(5)).append('.').append(pick(8) / 7).append(".0");
+        text.append(pick(8) == 0 ? "-b" : "").append(pick(8) == 0 ? "+x" : "");
+        int on = pick(packs);
+        for (int k = pick(Math.min(needs, packs) + 1); k > 0; k--) {
+            text.append(';').append(on).append(' ').append(looseRequirement());
+            on = (on + 1 + pick(Math.max(1, packs / 5))) % packs;
+        }
+        return text.toString();
+    }
+
     /** Now and then a byte more, less or other. */
     private static String perhapsSpoilt(String text) {
         if (pick(12) > 0 || text.isEmpty()) {
@@ -107,12 +135,17 @@ public final class ModelTest {
         final int packs = 2 + pick(8);
         final int needs = pick(6);
         final int length = 30 + pick(480);
+        final boolean loose;
 
-        Run(int run) {
+        Run(int run, boolean loose) {
             this.run = run;
+            this.loose = loose;
         }
 
         void play() {
+            for (int k = pick(40); loose && k > 0 && calls.size() < length / 2; k--) {
+                publish(pick(Math.min(packs, 8)));
+            }
             while (calls.size() < length - 45) {
                 step();
             }
@@ -123,16 +156,15 @@ public final class ModelTest {
             int version = pick(15) == 0 ? pick(44) - 2 : pick(Math.max(1, model.versions.size()));
             int what = pick(24);
             if (what < 7) {
-                feed(perhapsSpoilt(publication(spread, wordsOf, Math.min(packs, 8), needs)));
-                same("publish(" + pack + ")", () -> program.publish(pack), () -> model.publish(pack));
+                publish(pack);
             } else if (what < 10) {
-                feed(perhapsSpoilt(requirement(spread, wordsOf)));
+                feed(perhapsSpoilt(anyRequirement()));
                 same("want(" + pack + ")", () -> { program.want(pack); return 0; }, () -> model.want(pack));
             } else if (what < 12) {
-                feed(perhapsSpoilt(requirement(spread, wordsOf)));
+                feed(perhapsSpoilt(anyRequirement()));
                 same("meets(" + version + ")", () -> program.meets(version), () -> model.meets(version));
             } else if (what < 14) {
-                feed(perhapsSpoilt(requirement(spread, wordsOf)));
+                feed(perhapsSpoilt(anyRequirement()));
                 same("best(" + pack + ")", () -> program.best(pack), () -> model.best(pack));
             } else if (what < 17) {
                 same("solve()", program::solve, model::solve);
@@ -143,6 +175,19 @@ public final class ModelTest {
             } else {
                 smallStep(what, pack, version);
             }
+        }
+
+        void publish(int pack) {
+            if (loose && model.choices() > 60000) {
+                return;
+            }
+            int named = Math.min(packs, 8);
+            feed(perhapsSpoilt(loose ? loosePublication(named, needs) : publication(spread, wordsOf, named, needs)));
+            same("publish(" + pack + ")", () -> program.publish(pack), () -> model.publish(pack));
+        }
+
+        String anyRequirement() {
+            return loose ? looseRequirement() : requirement(spread, wordsOf);
         }
 
         void smallStep(int what, int pack, int version) {
@@ -234,6 +279,8 @@ public final class ModelTest {
         static final Pattern VERSION = Pattern.compile(BARE + "(?:\\+" + WORD + "(?:\\." + WORD + ")*)?");
         static final Pattern COMPARATOR = Pattern.compile("\\*|" + NUM + "\\.\\*|" + NUM + "\\." + NUM + "\\.\\*|"
                 + "(?:\\^|~|=|>|>=|<|<=)?(?:" + NUM + "|" + NUM + "\\." + NUM + "|" + BARE + ")");
+
+        static final Map<String, Boolean> MET = new HashMap<>();
 
         final List<Entry> versions = new ArrayList<>();
         final String[] root = new String[8];
@@ -576,7 +623,21 @@ public final class ModelTest {
         }
 
         boolean isGiven(int[] row, int pack, String requirement) {
-            return row[pack] >= 0 && isMet(versions.get(row[pack]).written, requirement);
+            if (row[pack] < 0) {
+                return false;
+            }
+            String written = versions.get(row[pack]).written;
+            return MET.computeIfAbsent(written + " " + requirement, key -> isMet(written, requirement));
+        }
+
+        /** How many rows solve() would try at the worst. */
+        long choices() {
+            long product = 1;
+            for (int pack = 0; pack < 8; pack++) {
+                int each = pack;
+                product *= 1 + versions.stream().filter(e -> e.pack == each).count();
+            }
+            return product;
         }
 
         boolean isReached(int[] row) {
