@@ -542,9 +542,9 @@ public final class VersionSolver {
             return Integer.compare(words.length, other.words.length);
         }
 
-        /** Makes of words a row; the first element where two rows differ tells their precedence. */
+        /** Makes of words a row: where two rows first differ, or where one ends, tells their precedence. */
         static int[] ranked(byte[] words) {
-            // A word of one byte takes most: itself, its kind and its end.
+            // A word of one byte takes the most for its length: its kind, itself and its end.
             int[] row = new int[3 * words.length];
             int length = 0;
             int from = 0;
