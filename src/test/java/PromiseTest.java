@@ -1,20 +1,5 @@
-import java.nio.charset.StandardCharsets;
-import java.util.concurrent.Callable;
-
 /** Each promise of the document with ordinary inputs, its edges and wrong inputs. */
-public final class PromiseTest {
-    private static final String INDEX = "IndexOutOfBoundsException";
-    private static final String ARGUMENT = "IllegalArgumentException";
-    private static final String STATE = "IllegalStateException";
-    private static final String UNSUPPORTED = "UnsupportedOperationException";
-    private static final String DONE = "done";
-    private static final int[] WRONG_PACKS = {-1, 8, 40, Integer.MAX_VALUE, Integer.MIN_VALUE};
-
-    private static int right = 0;
-    private static int wrong = 0;
-    private static int promise = 0;
-    private static VersionSolver x = new VersionSolver();
-
+public final class PromiseTest extends Calls {
     public static void main(String[] args) {
         promise1NewObject();
         promise2Feed();
@@ -43,129 +28,29 @@ public final class PromiseTest {
         promise16Told();
         promise17Write();
         promise18FileByte();
-        System.out.println(right + " answers as due, " + wrong + " not");
-        if (wrong != 0) {
-            System.exit(1);
-        }
-    }
-
-    private static void begin(int number) {
-        promise = number;
-        x = new VersionSolver();
-    }
-
-    private static void due(String call, Object want, Callable<Object> got) {
-        String answer;
-        try {
-            answer = String.valueOf(got.call());
-        } catch (Exception e) {
-            answer = e.getClass().getSimpleName();
-        }
-        if (answer.equals(String.valueOf(want))) {
-            right++;
-        } else {
-            wrong++;
-            System.out.println("promise " + promise + ": " + call + " answered " + answer + ", due is " + want);
-        }
-    }
-
-    private static void feed(String text) {
-        byte[] bytes = text.getBytes(StandardCharsets.ISO_8859_1);
-        for (int at = 0; at < bytes.length; at += 8) {
-            int n = Math.min(8, bytes.length - at);
-            long eight = 0;
-            for (int i = 0; i < n; i++) {
-                eight |= (bytes[at + i] & 255L) << 8 * i;
-            }
-            x.feed(eight, n);
-        }
-    }
-
-    private static void publish(int pack, String text, Object want) {
-        due("publish(" + pack + ") of \"" + text + "\"", want, () -> {
-            feed(text);
-            return x.publish(pack);
-        });
-    }
-
-    private static void want(int pack, String text, Object want) {
-        due("want(" + pack + ") of \"" + text + "\"", want, () -> {
-            feed(text);
-            x.want(pack);
-            return DONE;
-        });
-    }
-
-    private static void meets(int version, String text, Object want) {
-        due("meets(" + version + ") of \"" + text + "\"", want, () -> {
-            feed(text);
-            return x.meets(version);
-        });
-    }
-
-    private static void best(int pack, String text, Object want) {
-        due("best(" + pack + ") of \"" + text + "\"", want, () -> {
-            feed(text);
-            return x.best(pack);
-        });
-    }
-
-    private static void told(int what, int want) {
-        due("told(" + what + ")", want, () -> x.told(what));
-    }
-
-    private static void yank(int version, boolean on, Object want) {
-        due("yank(" + version + ", " + on + ")", want, () -> x.yank(version, on));
-    }
-
-    private static void pin(int version, Object want) {
-        due("pin(" + version + ")", want, () -> x.pin(version));
-    }
-
-    /** What solve() answers, and then what each package has, NONE for those that are not told. */
-    private static void solve(Object want, int... versions) {
-        due("solve()", want, () -> x.solve());
-        for (int pack = 0; pack < 8; pack++) {
-            int each = pack;
-            due("chosen(" + pack + ")", pack < versions.length ? versions[pack] : VersionSolver.NONE,
-                    () -> x.chosen(each));
-        }
-    }
-
-    private static void noSolution(int... chosenBefore) {
-        solve(STATE, chosenBefore);
-    }
-
-    private static void file(String want) {
-        due("write()", want.length(), () -> x.write());
-        StringBuilder got = new StringBuilder();
-        for (int i = 0; i < want.length(); i++) {
-            got.append((char) x.fileByte(i));
-        }
-        due("the file", want, got::toString);
-        due("fileByte behind the end", INDEX, () -> x.fileByte(want.length()));
+        end();
     }
 
     private static void promise1NewObject() {
-        begin(1);
+        begin("promise 1");
         due("NONE", -1, () -> VersionSolver.NONE);
         for (int what = 0; what < 5; what++) {
             told(what, 0);
         }
-        due("fileByte(0)", INDEX, () -> x.fileByte(0));
-        due("chosen(0)", -1, () -> x.chosen(0));
-        due("lock()", 0, () -> x.lock());
+        fileByte(0, INDEX);
+        chosen(0, -1);
+        lock(0);
         due("write()", 0, () -> x.write());
-        due("unlock()", 0, () -> x.unlock());
+        unlock(0);
         solve(0);
-        due("compare(0, 0)", INDEX, () -> x.compare(0, 0));
+        compare(0, 0, INDEX);
         VersionSolver other = new VersionSolver();
         publish(0, "1.0.0", 0);
         due("told(0) of another object", 0, () -> other.told(0));
     }
 
     private static void promise2Feed() {
-        begin(2);
+        begin("promise 2");
         due("feed(0, 0)", ARGUMENT, () -> x.feed(0, 0));
         due("feed(0, -1)", ARGUMENT, () -> x.feed(0, -1));
         due("feed(0, 9)", ARGUMENT, () -> x.feed(0, 9));
@@ -197,7 +82,7 @@ public final class PromiseTest {
     }
 
     private static void promise3PublishRight() {
-        begin(3);
+        begin("promise 3");
         String[] versions = {"0.0.0", "999999999.999999999.9999", "1.2.3-a", "1.2.3-0", "1.2.3--", "1.2.3---1.-0",
             "1.2.3-0a", "1.2.3-00a.0-0", "1.2.3-999999999", "1.2.4-a+b", "1.2.5+001.0a.-", "1.2.6-0.a.Z-9+0.00",
             "1.2.3-aaaaaaaaaaaaaaaaaa", "1.2.7+aaaaaaaaaaaaaaaaaa", "10.20.30"};
@@ -214,7 +99,7 @@ public final class PromiseTest {
     }
 
     private static void promise3PublishWrong() {
-        begin(3);
+        begin("promise 3");
         String[] texts = {"", "1", "1.2", "1.2.", "1.2.3.", "1.2.3.4", ".1.2", "1..2", "a.b.c", "01.2.3", "1.02.3",
             "1.2.03", "00.0.0", "1000000000.0.0", "0.1000000000.0", "0.0.1000000000", "1.2.3-", "1.2.3-.a", "1.2.3-a.",
             "1.2.3-a..b", "1.2.3-01", "1.2.3-a.00", "1.2.3-1000000000", "1.2.3+", "1.2.3+a.", "1.2.3+.a", "1.2.3-a+",
@@ -242,7 +127,7 @@ public final class PromiseTest {
     }
 
     private static void promise3PublishOrderOfExceptions() {
-        begin(3);
+        begin("promise 3");
         publish(8, "x", INDEX);
         publish(0, "1.0.0", 0);
         publish(0, "1.0.0", STATE);
@@ -261,12 +146,12 @@ public final class PromiseTest {
         publish(8, "3.0.0", INDEX);
         told(0, 40);
         told(4, 0);
-        due("compare(39, 0)", 1, () -> x.compare(39, 0));
-        due("compare(40, 0)", INDEX, () -> x.compare(40, 0));
+        compare(39, 0, 1);
+        compare(40, 0, INDEX);
     }
 
     private static void promise4Yank() {
-        begin(4);
+        begin("promise 4");
         yank(0, true, INDEX);
         publish(0, "1.0.0", 0);
         publish(0, "2.0.0", 1);
@@ -286,7 +171,7 @@ public final class PromiseTest {
     }
 
     private static void promise5Want() {
-        begin(5);
+        begin("promise 5");
         String[] texts = {"*", "1", "1.2", "1.2.3", "^1", "~1.2", "=1.2.3", ">0", ">=0.0", "<1.2.3-a.0", "<=1", "1.*",
             "1.2.*", "0.*", "1,2,3,4", "  1  ,  2  ", " * ", "1.2.3--", "1.2.3-0a", "999999999", "~999999999.999999999",
             ">=999999999.999999999.9999", "1.2.3-aaaaaaaaaaaaaaaaaa"};
@@ -294,7 +179,7 @@ public final class PromiseTest {
             want(k % 8, texts[k], DONE);
             told(2, Math.min(k + 1, 8));
         }
-        begin(5);
+        begin("promise 5");
         publish(3, "1.0.0", 0);
         publish(3, "2.0.0", 1);
         want(3, "1", DONE);
@@ -307,7 +192,7 @@ public final class PromiseTest {
     }
 
     private static void promise5WantWrong() {
-        begin(5);
+        begin("promise 5");
         String[] texts = {"", " ", "1.", ".1", "01", "1.02", "1.2.03", "^", "^ 1", "^^1", ">=>1", "=>1", "==1", "><1",
             "!1", "1 .2", "1. 2", "1 2", "1.2.3.4", "1.2.3-", "1.2.3-a..b", "1.2.3-01", "1.2.3+x", "1.2.3-a+x", "1-a",
             "1.2-a", "*.1", "^*", "~*", "=1.*", ">=1.2.*", "1.*.3", "1.2.3.*", "1.2.3-*", "1.*-a", "**", "1**", "1,2,3,4,5",
@@ -328,25 +213,25 @@ public final class PromiseTest {
     }
 
     private static void promise6Drop() {
-        begin(6);
+        begin("promise 6");
         for (int pack : WRONG_PACKS) {
-            due("drop(" + pack + ")", INDEX, () -> x.drop(pack));
+            drop(pack, INDEX);
         }
-        due("drop(0)", false, () -> x.drop(0));
+        drop(0, false);
         want(0, "*", DONE);
         want(7, "*", DONE);
         noSolution();
-        due("drop(1)", false, () -> x.drop(1));
-        due("drop(0)", true, () -> x.drop(0));
-        due("drop(0)", false, () -> x.drop(0));
+        drop(1, false);
+        drop(0, true);
+        drop(0, false);
         told(2, 1);
-        due("drop(7)", true, () -> x.drop(7));
+        drop(7, true);
         told(2, 0);
         solve(0);
     }
 
     private static void promise7SolveOrder() {
-        begin(7);
+        begin("promise 7");
         publish(0, "1.0.0", 0);
         publish(0, "3.0.0", 1);
         publish(0, "2.0.0", 2);
@@ -355,7 +240,7 @@ public final class PromiseTest {
         want(0, "<3", DONE);
         solve(1, 2);
         // The first package decides before the second one, though the second one loses more.
-        begin(7);
+        begin("promise 7");
         publish(0, "1.0.0;1 *", 0);
         publish(0, "2.0.0;1 1", 1);
         publish(1, "1.0.0", 2);
@@ -365,14 +250,14 @@ public final class PromiseTest {
         want(0, "*", DONE);
         solve(2, 1, 2);
         // None comes before any version: package 0 is shunned at the cost of a lower version in 1.
-        begin(7);
+        begin("promise 7");
         publish(1, "2.0.0;0 *", 0);
         publish(1, "1.0.0", 1);
         publish(0, "1.0.0", 2);
         want(1, "*", DONE);
         solve(1, -1, 1);
         // And a lower version in package 0 lets package 1 do without.
-        begin(7);
+        begin("promise 7");
         publish(0, "2.0.0;1 *", 0);
         publish(0, "1.0.0", 1);
         publish(1, "1.0.0", 2);
@@ -381,7 +266,7 @@ public final class PromiseTest {
     }
 
     private static void promise7SolveRequirements() {
-        begin(7);
+        begin("promise 7");
         want(0, "*", DONE);
         noSolution();
         publish(0, "1.0.0-a", 0);
@@ -396,7 +281,7 @@ public final class PromiseTest {
         publish(5, "0.9.0;0 1.0.0-a", 3);
         solve(2, 1, -1, -1, -1, -1, 3);
         // What it requires of itself must hold.
-        begin(7);
+        begin("promise 7");
         publish(2, "1.0.0;2 ^1", 0);
         publish(2, "2.0.0;2 ^1", 1);
         publish(2, "3.0.0;2 ~2", 2);
@@ -405,7 +290,7 @@ public final class PromiseTest {
         want(2, ">1", DONE);
         noSolution(-1, -1, 0);
         // The root's and all the versions' requirements on one package hold together.
-        begin(7);
+        begin("promise 7");
         publish(0, "1.0.0;2 >=2", 0);
         publish(1, "1.0.0;2 <=3", 1);
         for (int v = 1; v <= 4; v++) {
@@ -422,7 +307,7 @@ public final class PromiseTest {
 
     private static void promise7SolveReached() {
         // Packages that hold one another only, or themselves, are not reached.
-        begin(7);
+        begin("promise 7");
         publish(0, "1.0.0;1 *", 0);
         publish(1, "1.0.0;0 *", 1);
         publish(2, "1.0.0;2 *", 2);
@@ -430,7 +315,7 @@ public final class PromiseTest {
         solve(0);
         want(3, "*", DONE);
         solve(1, -1, -1, -1, 3);
-        due("drop(3)", true, () -> x.drop(3));
+        drop(3, true);
         want(1, "*", DONE);
         solve(2, 0, 1);
         // A pinned version is not in a solution for that alone.
@@ -438,7 +323,7 @@ public final class PromiseTest {
         pin(3, -1);
         solve(2, 0, 1);
         // A version that would help nobody does not come in, and a late package leads to early ones.
-        begin(7);
+        begin("promise 7");
         publish(7, "1.0.0;6 *", 0);
         publish(6, "1.0.0;0 *", 1);
         publish(0, "1.0.0", 2);
@@ -448,7 +333,7 @@ public final class PromiseTest {
     }
 
     private static void promise7SolveYankedAndPinned() {
-        begin(7);
+        begin("promise 7");
         publish(0, "1.0.0", 0);
         publish(0, "2.0.0", 1);
         publish(0, "3.0.0", 2);
@@ -464,10 +349,10 @@ public final class PromiseTest {
         solve(1, 1);
         want(0, "3", DONE);
         solve(1, 2);
-        due("unlock()", 1, () -> x.unlock());
+        unlock(1);
         noSolution(2);
         // A pin on an early package comes before precedence on a later one, and the reverse.
-        begin(7);
+        begin("promise 7");
         publish(0, "1.0.0;1 1", 0);
         publish(0, "2.0.0;1 2", 1);
         publish(1, "1.0.0", 2);
@@ -480,7 +365,7 @@ public final class PromiseTest {
         pin(3, 2);
         solve(2, 0, 2);
         // None comes before the pinned version, too.
-        begin(7);
+        begin("promise 7");
         publish(0, "1.0.0", 0);
         publish(1, "2.0.0;0 *", 1);
         publish(1, "1.0.0", 2);
@@ -492,7 +377,7 @@ public final class PromiseTest {
 
     /** All forty versions, each of which asks the next packages to be below it, or above it. */
     private static void promise7SolveHard() {
-        begin(7);
+        begin("promise 7");
         int next = 0;
         for (int pack = 0; pack < 8; pack++) {
             for (int v = 1; v <= 5; v++) {
@@ -508,36 +393,36 @@ public final class PromiseTest {
             want(pack, "*", DONE);
         }
         noSolution();
-        due("drop(7)", true, () -> x.drop(7));
+        drop(7, true);
         noSolution();
     }
 
     private static void promise8Chosen() {
-        begin(8);
+        begin("promise 8");
         for (int pack : WRONG_PACKS) {
-            due("chosen(" + pack + ")", INDEX, () -> x.chosen(pack));
+            chosen(pack, INDEX);
         }
         publish(7, "1.0.0", 0);
         want(7, "*", DONE);
-        due("chosen(7)", -1, () -> x.chosen(7));
+        chosen(7, -1);
         solve(1, -1, -1, -1, -1, -1, -1, -1, 0);
         publish(7, "2.0.0", 1);
-        due("chosen(7)", 0, () -> x.chosen(7));
+        chosen(7, 0);
         yank(0, true, false);
-        due("chosen(7)", 0, () -> x.chosen(7));
+        chosen(7, 0);
         want(7, "3", DONE);
-        due("chosen(7)", 0, () -> x.chosen(7));
+        chosen(7, 0);
         noSolution(-1, -1, -1, -1, -1, -1, -1, 0);
-        due("drop(7)", true, () -> x.drop(7));
-        due("chosen(7)", 0, () -> x.chosen(7));
-        due("unlock()", 0, () -> x.unlock());
+        drop(7, true);
+        chosen(7, 0);
+        unlock(0);
         pin(1, -1);
-        due("chosen(7)", 0, () -> x.chosen(7));
+        chosen(7, 0);
         solve(0);
     }
 
     private static void promise9Lock() {
-        begin(9);
+        begin("promise 9");
         publish(0, "1.0.0;3 *", 0);
         publish(3, "1.0.0", 1);
         publish(4, "1.0.0", 2);
@@ -550,25 +435,25 @@ public final class PromiseTest {
         publish(0, "2.0.0", 3);
         publish(3, "2.0.0", 4);
         yank(0, true, false);
-        due("drop(0)", true, () -> x.drop(0));
-        due("lock()", 2, () -> x.lock());
+        drop(0, true);
+        lock(2);
         told(3, 2);
         want(0, "*", DONE);
         solve(2, 0, -1, -1, 1);
         pin(2, -1);
-        due("lock()", 2, () -> x.lock());
+        lock(2);
         pin(2, -1);
         want(0, "9", DONE);
         noSolution(0, -1, -1, 1);
-        due("lock()", 2, () -> x.lock());
-        due("drop(0)", true, () -> x.drop(0));
+        lock(2);
+        drop(0, true);
         solve(0);
-        due("lock()", 0, () -> x.lock());
+        lock(0);
         told(3, 0);
     }
 
     private static void promise10Pin() {
-        begin(10);
+        begin("promise 10");
         pin(0, INDEX);
         publish(0, "1.0.0", 0);
         publish(0, "2.0.0", 1);
@@ -591,8 +476,8 @@ public final class PromiseTest {
     }
 
     private static void promise11Unlock() {
-        begin(11);
-        due("unlock()", 0, () -> x.unlock());
+        begin("promise 11");
+        unlock(0);
         publish(0, "1.0.0", 0);
         publish(0, "2.0.0", 1);
         publish(5, "1.0.0", 2);
@@ -600,8 +485,8 @@ public final class PromiseTest {
         pin(2, -1);
         want(0, "*", DONE);
         solve(1, 0);
-        due("unlock()", 2, () -> x.unlock());
-        due("unlock()", 0, () -> x.unlock());
+        unlock(2);
+        unlock(0);
         told(3, 0);
         solve(1, 1);
         pin(0, -1);
@@ -609,7 +494,7 @@ public final class PromiseTest {
 
     /** A new object with these versions; one object answers no more than 512 calls. */
     private static void stock(int number, String[] versions) {
-        begin(number);
+        begin("promise " + number);
         for (int v = 0; v < versions.length; v++) {
             publish(v % 8, versions[v], v);
         }
@@ -700,7 +585,7 @@ public final class PromiseTest {
         met(versions, "<1.1, >=1.1.0-a", "0000010000");
         met(versions, ">=1.0.0-a, >=1.0.1-a", "0000100100");
         // What is behind + does not count; - behind + is no word behind -.
-        begin(12);
+        begin("promise 12");
         publish(0, "1.0.0+b-c", 0);
         meets(0, "=1.0.0", true);
         meets(0, "*", true);
@@ -712,7 +597,7 @@ public final class PromiseTest {
     }
 
     private static void promise12MeetsWrong() {
-        begin(12);
+        begin("promise 12");
         meets(0, "*", INDEX);
         publish(0, "1.0.0", 0);
         meets(-1, "*", INDEX);
@@ -728,7 +613,7 @@ public final class PromiseTest {
     }
 
     private static void promise13Best() {
-        begin(13);
+        begin("promise 13");
         for (int pack : WRONG_PACKS) {
             best(pack, "x", INDEX);
             told(4, 0);
@@ -774,15 +659,15 @@ public final class PromiseTest {
         }
         publish(4, "1.0.0-a+zzz", rising.length);
         due("compare, but for +", 0, () -> x.compare(19, rising.length));
-        due("compare(-1, 0)", INDEX, () -> x.compare(-1, 0));
-        due("compare(0, -1)", INDEX, () -> x.compare(0, -1));
-        due("compare(0, 99)", INDEX, () -> x.compare(0, 99));
-        due("compare(99, 0)", INDEX, () -> x.compare(99, 0));
+        compare(-1, 0, INDEX);
+        compare(0, -1, INDEX);
+        compare(0, 99, INDEX);
+        compare(99, 0, INDEX);
     }
 
     private static void promise15Needs() {
-        begin(15);
-        due("needs(0, 0)", INDEX, () -> x.needs(0, 0));
+        begin("promise 15");
+        needs(0, 0, INDEX);
         publish(4, "1.0.0;7 *;0 1;4 >0;3 2;1 *", 0);
         publish(4, "1.0.1", 1);
         publish(4, "1.0.2;5 *", 2);
@@ -791,18 +676,18 @@ public final class PromiseTest {
             int each = k;
             due("needs(0, " + k + ")", packs[k], () -> x.needs(0, each));
         }
-        due("needs(0, -1)", -1, () -> x.needs(0, -1));
-        due("needs(0, MIN)", -1, () -> x.needs(0, Integer.MIN_VALUE));
-        due("needs(0, MAX)", -1, () -> x.needs(0, Integer.MAX_VALUE));
-        due("needs(1, 0)", -1, () -> x.needs(1, 0));
-        due("needs(2, 0)", 5, () -> x.needs(2, 0));
-        due("needs(2, 1)", -1, () -> x.needs(2, 1));
-        due("needs(3, 0)", INDEX, () -> x.needs(3, 0));
-        due("needs(-1, 0)", INDEX, () -> x.needs(-1, 0));
+        needs(0, -1, -1);
+        needs(0, Integer.MIN_VALUE, -1);
+        needs(0, Integer.MAX_VALUE, -1);
+        needs(1, 0, -1);
+        needs(2, 0, 5);
+        needs(2, 1, -1);
+        needs(3, 0, INDEX);
+        needs(-1, 0, INDEX);
     }
 
     private static void promise16Told() {
-        begin(16);
+        begin("promise 16");
         publish(0, "1.0.0", 0);
         publish(0, "2.0.0", 1);
         publish(1, "1.0.0", 2);
@@ -834,7 +719,7 @@ public final class PromiseTest {
     }
 
     private static void promise17Write() {
-        begin(17);
+        begin("promise 17");
         file("");
         publish(7, "1.0.0-a.1+b.02;0 *", 0);
         publish(0, "10.20.30", 1);
@@ -847,13 +732,13 @@ public final class PromiseTest {
         yank(1, true, false);
         noSolution(1, -1, -1, -1, -1, -1, -1, 0);
         file("0 10.20.30\n7 1.0.0-a.1+b.02\n");
-        due("drop(7)", true, () -> x.drop(7));
+        drop(7, true);
         file("0 10.20.30\n7 1.0.0-a.1+b.02\n");
         solve(0);
         due("fileByte(0) of the old file", 48, () -> x.fileByte(0));
         file("");
         // The longest file.
-        begin(17);
+        begin("promise 17");
         StringBuilder all = new StringBuilder();
         for (int pack = 0; pack < 8; pack++) {
             String version = "999999999.999999999.999" + pack;
@@ -866,7 +751,7 @@ public final class PromiseTest {
     }
 
     private static void promise18FileByte() {
-        begin(18);
+        begin("promise 18");
         publish(3, "1.2.3-a+B", 0);
         want(3, "1.2.3-a", DONE);
         solve(1, -1, -1, -1, 0);
@@ -876,9 +761,9 @@ public final class PromiseTest {
             int each = i;
             due("fileByte(" + i + ")", bytes[i], () -> x.fileByte(each));
         }
-        due("fileByte(12)", INDEX, () -> x.fileByte(12));
-        due("fileByte(-1)", INDEX, () -> x.fileByte(-1));
-        due("fileByte(MAX)", INDEX, () -> x.fileByte(Integer.MAX_VALUE));
-        due("fileByte(MIN)", INDEX, () -> x.fileByte(Integer.MIN_VALUE));
+        fileByte(12, INDEX);
+        fileByte(-1, INDEX);
+        fileByte(Integer.MAX_VALUE, INDEX);
+        fileByte(Integer.MIN_VALUE, INDEX);
     }
 }
