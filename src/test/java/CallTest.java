@@ -1,6 +1,6 @@
 /** The sentences of each promise, and those on all calls: each with a test of its own. */
 public final class CallTest extends Calls {
-    private static final int[] FAR = {Integer.MIN_VALUE, Integer.MIN_VALUE + 1, -257, -41, -2, -1};
+    private static final int[] NEGATIVE = {Integer.MIN_VALUE, Integer.MIN_VALUE + 1, -257, -41, -2, -1};
     private static final int NONE = VersionSolver.NONE;
 
     public static void main(String[] args) {
@@ -59,10 +59,10 @@ public final class CallTest extends Calls {
 
     /** No version's number, when there are so many versions. */
     private static int[] wrongVersions(int count) {
-        int[] wrong = new int[FAR.length + 6];
-        System.arraycopy(FAR, 0, wrong, 0, FAR.length);
+        int[] wrong = new int[NEGATIVE.length + 6];
+        System.arraycopy(NEGATIVE, 0, wrong, 0, NEGATIVE.length);
         int[] behind = {count, count + 1, count + 32, count + 64, 1 << 30, Integer.MAX_VALUE};
-        System.arraycopy(behind, 0, wrong, FAR.length, behind.length);
+        System.arraycopy(behind, 0, wrong, NEGATIVE.length, behind.length);
         return wrong;
     }
 
@@ -72,8 +72,11 @@ public final class CallTest extends Calls {
             publish(v % 8, "1.0." + v + ";" + (v + 1) % 8 + " *;" + (v + 3) % 8 + " >=1", v);
         }
         want(5, "*", DONE);
+        int[] pinned = {NONE, NONE, NONE, NONE, NONE, NONE, NONE, NONE};
         while (callsSoFar() < MOST_CALLS - 20) {
-            pin(callsSoFar() % 40, pinnedBefore(callsSoFar() % 40));
+            int version = callsSoFar() % 40;
+            pin(version, pinned[version % 8]);
+            pinned[version % 8] = version;
         }
         unlock(8);
         while (callsSoFar() < MOST_CALLS - 10) {
@@ -82,14 +85,6 @@ public final class CallTest extends Calls {
         solve(8, 32, 33, 34, 35, 36, 37, 38, 39);
         // The 512th call of all.
         writeDue(8 * 9);
-    }
-
-    private static final int[] PINNED = {NONE, NONE, NONE, NONE, NONE, NONE, NONE, NONE};
-
-    private static int pinnedBefore(int version) {
-        int before = PINNED[version % 8];
-        PINNED[version % 8] = version;
-        return before;
     }
 
     private static void packagesAre0To7() {

@@ -48,7 +48,7 @@ public final class TextTest extends Calls {
         // No requirement in these tests names 5.6.7 with words, so that it meets none.
         meets(0, text, right ? false : ARGUMENT);
         if (text.length() <= 160 - 8) {
-            publish(1, "1.0.0;1 " + text, right && text.indexOf(';') < 0 ? 1 : ARGUMENT);
+            publish(1, "1.0.0;1 " + text, right ? 1 : ARGUMENT);
         }
     }
 
