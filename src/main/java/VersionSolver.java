@@ -976,7 +976,7 @@ public final class VersionSolver {
             boolean grows = true;
             for (int round = 0; round < PACKS && grows; round++) {
                 int before = reached;
-                for (int v = 0; v < registry.count(); v++) {
+                for (int v = 0; v < MOST_VERSIONS; v++) {
                     if (isIn(versions, v) && isIn(reached, packOf[v])) {
                         reached |= needed[v];
                     }
